@@ -712,8 +712,11 @@ public final class LinenName {
         /** The place behind all bytes from here on that lie between two. */
         private int behind(int from, int least, int greatest) {
             int place = from;
-            for (int i = from; i < size && byteAt(i) >= least && byteAt(i) <= greatest; i++) {
-                place = i + 1;
+            boolean goesOn = true;
+            for (int i = from; goesOn && i < size; i++) {
+                int sign = bytes[i] & 255;
+                goesOn = sign >= least && sign <= greatest;
+                place = goesOn ? i + 1 : place;
             }
             return place;
         }

@@ -208,6 +208,23 @@ public final class ActsTest {
         CHECKS.due("count(least)", x.count(Integer.MIN_VALUE), -1);
     }
 
+    private static void imagesOfNotes() {
+        LinenName x = Checks.told("house 9 0;lodger 1 1;lodger 1 1;lodger 1 1", "fold 1", "fold other");
+        x.note(1, 0, 1);
+        x.note(2, 1, 1);
+        CHECKS.due("by rule 0", x.ruled(0) * 10 + x.ruled(1), 10);
+        x.image(2);
+        x.note(-1, 0, 0);
+        x.note(3, 0, 2);
+        x.note(0, 2, 2);
+        CHECKS.due("by rule 1", x.ruled(0) * 10 + x.ruled(1), 11);
+        x.back(2);
+        CHECKS.due("by rule 0 again", x.ruled(0) * 10 + x.ruled(1), 10);
+        Checks.house(x, "house 9 0;lodger 2 1;lodger 2 1;mix 0 0 1");
+        x.back(2);
+        CHECKS.due("the house as it was told", x.ruled(0) * 10 + x.ruled(1), 10);
+    }
+
     private static void images() {
         LinenName x = new LinenName();
         CHECKS.due("image(-1)", x.image(-1), -1);
@@ -246,6 +263,7 @@ public final class ActsTest {
         CHECKS.due("back(1)", x.back(1), 5);
         CHECKS.due("x", x.count(12), 8);
         CHECKS.due("NOTES", x.count(10), 2);
+        imagesOfNotes();
         CHECKS.due("back(2)", x.back(2), -1);
         CHECKS.due("back(3)", x.back(3), 0);
         CHECKS.due("no house", x.week(), -1);

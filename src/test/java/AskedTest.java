@@ -159,6 +159,10 @@ public final class AskedTest {
         CHECKS.due("and its second bed", x.told(3, 1), 2);
         CHECKS.due("and its third", x.told(3, 2), 3);
         CHECKS.due("and its last", x.told(3, 3), 1);
+        LinenName z = Checks.told("house 9 0;lodger 1 9" + ";lodger 1 1".repeat(5) + ";lodger 9 1");
+        CHECKS.due("the last bed of seven", z.told(1, 6), 0);
+        CHECKS.due("a set of seven", z.told(127, -1), 1);
+        CHECKS.due("an eighth", z.told(128, -1), -3);
         LinenName y = Checks.told("house 9 0;lodger 1 9;lodger 9 20;lodger 5 9");
         CHECKS.due("by none", y.told(2, -1), -2);
         CHECKS.due("by none, a bed", y.told(2, 0), -2);
@@ -181,6 +185,8 @@ public final class AskedTest {
         CHECKS.due("nearer(0)", x.nearer(0), 1);
         CHECKS.due("nearer(1)", x.nearer(1), 1);
         CHECKS.due("nearer(2)", x.nearer(2), 3);
+        CHECKS.due("one has less by it", x.twos(0), 0);
+        CHECKS.due("none such", x.twos(1), -2);
         x.swap(2, 3);
         CHECKS.due("nearer(0) in a ring of three", x.nearer(0), 3);
         CHECKS.due("nearer(2) in it", x.nearer(2), 2);
@@ -345,6 +351,10 @@ public final class AskedTest {
         CHECKS.due("two alike", x.look(1, 1), 2);
         x.note(1, 0, 1);
         CHECKS.due("none is so", x.look(1, 0), -2);
+        LinenName y = three();
+        y.note(1, 0, 1);
+        CHECKS.due("one is so", y.look(3, 0), 0);
+        CHECKS.due("like none but itself", y.look(3, 1), 1);
         CHECKS.due("none is so, how many", x.look(1, 1), -2);
         int[][] wrong = {{-1, 0}, {61, 0}, {1, 2}, {1, -1}};
         for (int[] w : wrong) {

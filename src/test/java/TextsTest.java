@@ -168,6 +168,8 @@ public final class TextsTest {
         CHECKS.due("a test that holds not", changes("fold 1 if 1=2"), 0);
         CHECKS.due("the first clause that holds", changes("fold 5 if 1=2;fold 0 if 1=1;fold 9"), 0);
         CHECKS.due("the first clause without a test", changes("fold 5 if 1=2;fold 7;fold 0"), 1);
+        CHECKS.due("the twelfth clause", changes("fold 1 if 1=2;".repeat(11) + "fold 1 if 1=1"), 1);
+        CHECKS.due("none of twelve", changes("fold 1 if 1=2;".repeat(12).replaceAll(";$", "")), 0);
         CHECKS.due("or and and", changes("fold 1 if 1=1 or 1=1 and 1=2"), 1);
         CHECKS.due("and and or", changes("fold 1 if 1=2 and 1=1 or 1=1"), 1);
         CHECKS.due("brackets", changes("fold 1 if [1=1 or 1=1] and 1=2"), 0);
