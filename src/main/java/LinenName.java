@@ -518,10 +518,11 @@ public final class LinenName {
         int first = NOTHING_SUCH;
         for (int one = 0; one < now.house.lodgers; one++) {
             for (int other = one + 1; other < now.house.lodgers; other++) {
-                boolean found = forBoth ? betterForBoth(one, other) : comesNearer(one, other);
-                if (found) {
+                if (forBoth ? betterForBoth(one, other) : comesNearer(one, other)) {
                     howMany++;
-                    first = howMany > 1 ? first : what == 1 ? one : other;
+                    if (howMany == 1) {
+                        first = what == 1 ? one : other;
+                    }
                 }
             }
         }
