@@ -215,8 +215,8 @@ public final class ActsTest {
         CHECKS.due("by rule 0", x.ruled(0) * 10 + x.ruled(1), 10);
         x.image(2);
         x.note(-1, 0, 0);
+        x.note(2, 0, 0);
         x.note(3, 0, 2);
-        x.note(0, 2, 2);
         CHECKS.due("by rule 1", x.ruled(0) * 10 + x.ruled(1), 11);
         x.back(2);
         CHECKS.due("by rule 0 again", x.ruled(0) * 10 + x.ruled(1), 10);
