@@ -84,12 +84,13 @@ public final class LinenName {
             return NONE;
         }
         Rule read = ruleReader.read(tape);
+        // unlike a house, a rule with a fault takes its text with it
+        tape.size = 0;
         if (read == null) {
             return NOTHING_SUCH - tape.fault;
         }
         rules[ruleCount] = read;
         ruleCount++;
-        tape.size = 0;
         return ruleCount - 1;
     }
 

@@ -478,6 +478,7 @@ final class PlainModel {
         try {
             rules.add(readRule());
         } catch (Fault f) {
+            tape.clear();
             return -2 - f.number;
         }
         tape.clear();

@@ -62,9 +62,11 @@ public final class RoomTest {
     private static void texts(LinenName x) {
         makesNothing("note(1, 1, 1)", () -> x.note(1, 1, 1));
         makesNothing("feed and end", () -> x.feed(1, 2, 3, 4, 5) + x.end(0));
-        Checks.say(x, "fold grade+gradeo+wantso*worno/lets if [not was<=12345 or week=1] and worno>x");
-        makesNothing("rule() with a fault", x::rule);
-        x.end(0);
+        // "fold 1+week if one=x", again each time: a rule takes its text with it
+        makesNothing("rule() with a fault",
+            () -> x.feed(0x666f6c64, 0x20312b77, 0x65656b20, 0x6966206f, 0x6e653d78) + x.rule());
+        CHECKS.due("that fault", x.feed(0x666f6c64, 0x20312b77, 0x65656b20, 0x6966206f, 0x6e653d78) + x.rule(),
+            20 + Checks.fault(19, 0));
         Checks.say(x, "house 30 9" + ";lodger 1 2".repeat(7) + ";mix 6 0 6".repeat(8) + ";mix 1 0 1");
         makesNothing("house() with a fault", x::house);
     }

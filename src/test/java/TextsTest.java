@@ -244,7 +244,7 @@ public final class TextsTest {
         LinenName x = new LinenName();
         CHECKS.due("rule of '" + text + "'", Checks.rule(x, text), Checks.fault(place, code));
         CHECKS.due("no rule", x.count(4), 0);
-        CHECKS.due("the tape stays", x.count(13), text.length());
+        CHECKS.due("the tape is empty behind a fault", x.count(13), 0);
     }
 
     private static void ruleFaults() {
