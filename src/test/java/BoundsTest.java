@@ -288,6 +288,11 @@ public final class BoundsTest {
         due("seven", z.most(NONE), 7);
         due("BED 6", z.most(6), 6);
         due("BED 7", z.most(7), -3);
+        Checks.house(z, "house 30 0;lodger 3 1;lodger 2 2;lodger 1 3");
+        due("three behind seven", z.most(NONE), 3);
+        due("their order", z.most(0) * 100 + z.most(1) * 10 + z.most(2), 210);
+        Checks.house(z, "house 30 0;lodger 1 9");
+        due("one of whom is none", z.most(NONE), 0);
         LinenName v = Checks.told("house 30 0;lodger 9 9;lodger 9 1");
         due("least numbers first", v.most(0) * 10 + v.most(1), 1);
         due("a BED that there is not", v.most(2), -2);
@@ -401,6 +406,7 @@ public final class BoundsTest {
         due("then the least", y.lock(2, 0), 1);
         due("all in both", y.lock(2, 1), 6);
         due("nothing is locked by asking", y.week(), 1 + 4);
+        due("in these, not so far", y.lock(2, 1), 4);
         // the rule would take 0 and 1 and is not asked of them, so that it takes 0 and 2, or 1 and 2
         LinenName z = Checks.told("house 30 0;lodger 5 5;lodger 0 0;lodger 0 0", "fold 9-one-other if week=0 or week=1");
         due("bed 0 locked, the others may change", z.lock(2, 0), 0);
@@ -431,6 +437,12 @@ public final class BoundsTest {
         due("1/3", y.pence(1, 0), 0);
         due("of 2: 2/3 and 1 1/3", y.pence(2, 0) * 10 + y.pence(2, 1), 11);
         due("of 3", y.pence(3, 0) * 10 + y.pence(3, 1), 12);
+        LinenName z = Checks.told("house 30 0" + ";lodger 1 1".repeat(7));
+        z.week();
+        int[] seven = {1429, 1429, 1429, 1428, 1428, 1428, 1428};
+        for (int i = 0; i < 7; i++) {
+            due("of seven, lodger " + i, z.pence(9999, i), seven[i]);
+        }
     }
 
     private static void game() {
@@ -539,6 +551,12 @@ public final class BoundsTest {
         due("0 is below 1", x.laundries(1, 1, 1, 1), 0);
         due("below 0", x.seed(-1), -1);
         due("nothing happens", x.count(12), 0);
+        // x becomes 50 * 65536, and 50 * 65536 + 65535: both draw 50, of 100 too
+        x.seed(1982965379);
+        due("50 is not below 50", x.laundries(1, 1, 50, 1), 2);
+        x.seed(1927068446);
+        due("50 is below 51", x.laundries(1, 1, 51, 1), 0);
+        x.seed(0);
         due("the same again", x.seed(5) + x.seed(5), 5);
     }
 
@@ -598,6 +616,43 @@ public final class BoundsTest {
         x.back(0);
         due("in force there", x.count(5), 1);
         due("RULES stay", x.count(4), 2);
+        imagesOfHouses();
+    }
+
+    /** An image has the house as it was told, whatever houses come between. */
+    private static void imagesOfHouses() {
+        LinenName x = Checks.told("house 2 3;lodger 20 1;lodger 10 2;lodger 5 3;mix 2 0 1;mix 3 1 2;mix 3 0 1");
+        x.week();
+        x.image(1);
+        Checks.house(x, "house 9 9" + ";lodger 7 17".repeat(6) + ";mix 0 4 5;mix 1 5 4");
+        x.image(2);
+        Checks.house(x, "house 30 0;lodger 0 20");
+        due("back to the first", x.back(1), 1);
+        int[] first = {2, 3, 3, 3, 0, -1, 1, 7, 7, 3, 0, 0, 0, 0};
+        for (int what = 0; what <= 13; what++) {
+            due("the first, count(" + what + ")", x.count(what), first[what]);
+        }
+        for (int i = 0; i < 3; i++) {
+            due("WANTS of " + i, x.lodger(i, 0), i + 1);
+        }
+        x.week();
+        due("turned as it LASTS", x.sheet(0, 0) * 100 + x.sheet(1, 0) * 10 + x.sheet(2, 0), 1052);
+        due("starched by its STARCH", x.starch(2), 5);
+        x.week();
+        due("its mix of WEEK 2", order(x), 102);
+        x.week();
+        due("its mixes of WEEK 3", order(x), 210);
+        due("told again, as the text told it", x.note(1, 0, 0) + x.note(3, 0, 1) + x.note(4, 0, 2), 6);
+        due("all so", x.ruled(0), 1);
+        due("back to the second", x.back(2), 0);
+        int[] second = {9, 9, 6, 2, 0, -1, 0, 0, 63, 0, 0, 0, 0, 0};
+        for (int what = 0; what <= 13; what++) {
+            due("the second, count(" + what + ")", x.count(what), second[what]);
+        }
+        x.week();
+        due("its mix of WEEK 0", order(x), 12354);
+        x.week();
+        due("its mix of WEEK 1", order(x), 12345);
     }
 
     private static void counts() {

@@ -200,6 +200,17 @@ public final class TextBoundsTest {
             CHECKS.due("nobody was let", x.lodger(i, 3), 0);
         }
         CHECKS.due("no mix of the one there was", x.count(3), 0);
+        // nor of one before it, nor of a text that was refused
+        Checks.house(x, "house 2 0;lodger 7 7;lodger 7 7");
+        CHECKS.due("no mix of the first one", x.count(3), 0);
+        Checks.house(x, "house 9 9;lodger 1 2;lodger 3 4;mix 0 0 1;mix");
+        CHECKS.due("a house behind a refused one", Checks.house(x, "house 2 0;lodger 7 7;lodger 8 8;mix 1 0 1"), 2);
+        CHECKS.due("its mixes alone", x.count(3), 1);
+        CHECKS.due("its LASTS", x.count(0), 2);
+        x.week();
+        CHECKS.due("not in WEEK 0", x.lodger(0, 1), 0);
+        x.week();
+        CHECKS.due("in WEEK 1", x.lodger(0, 1), 1);
     }
 
     private static void houseRefused() {
@@ -259,6 +270,23 @@ public final class TextBoundsTest {
         x.end(0);
         Checks.say(x, "house 1 0");
         CHECKS.due("a house can be told still", x.house(), 0);
+        sixLongRules();
+    }
+
+    /** Each of six is read as if it were the first, and says what it says. */
+    private static void sixLongRules() {
+        LinenName x = Checks.told("house 30 0;lodger 1 1;lodger 1 1;lodger 1 1");
+        for (int i = 0; i < 6; i++) {
+            String pair = i % 2 == 0 ? "one=0 and other=2" : "one=1";
+            String text = "fold 1" + "+0".repeat(20) + " if " + pair + " and 1=1".repeat(9);
+            CHECKS.due("long rule " + i, Checks.rule(x, text), i);
+        }
+        for (int i = 0; i < 6; i++) {
+            Checks.house(x, "house 30 0;lodger 1 1;lodger 1 1;lodger 1 1");
+            x.force(i);
+            x.week();
+            CHECKS.due("by rule " + i, x.count(8), i % 2 == 0 ? 2 : 1);
+        }
     }
 
     private static void digitsAndWords() {
@@ -277,7 +305,17 @@ public final class TextBoundsTest {
             badRule("fold " + word + "x", 5, A_BYTE);
             badRule("fold " + word.substring(0, word.length() - 1) + "q", 5, A_BYTE);
             badRule("fold " + word.toUpperCase(), 5, A_BYTE);
+            badRule("fold q" + word.substring(1), 5, A_BYTE);
+            badRule("fold q" + word, 5, A_BYTE);
         }
+        badRule("bold 1", 0, A_BYTE);
+        badRule("fold 1 of one=0", 7, A_BYTE);
+        badRule("fold 1 if one=0 ar one=1", 16, A_BYTE);
+        badRule("fold 1 if one=0 ond one=1", 16, A_BYTE);
+        badRule("fold 1 if hot one=0", 10, A_BYTE);
+        badHouse("mouse 1 0", 0, A_BYTE);
+        badHouse("house 1 0;dodger 1 1", 10, A_BYTE);
+        badHouse("house 1 0;lodger 1 1;lodger 1 1;fix 0 0 1", 32, A_BYTE);
         badRule("fold oneo", 5, A_BYTE);
         badRule("fold waso", 5, A_BYTE);
         badRule("fold fold", 5, A_BYTE);
@@ -304,6 +342,13 @@ public final class TextBoundsTest {
         badRule("fold 1 if one<>0", 14, A_BYTE);
         badRule("fold 1 if one!0", 13, A_BYTE);
         badRule("fold 1 if (one=0)", 10, A_BYTE);
+        for (int sign : new int[] {0, 9, 10, 31, 33, 46, 58, 64, 65, 90, 95, 96, 123, 127, 128, 160, 233, 255}) {
+            badRule("fold 1" + (char) sign, 6, A_BYTE);
+            badRule("fold " + (char) sign + "1", 5, A_BYTE);
+            badHouse("house 1 0" + (char) sign, 9, A_BYTE);
+            badHouse("house" + (char) sign + "1 0", 5, A_BYTE);
+            badHouse((char) sign + "house 1 0", 0, A_BYTE);
+        }
         badRule("fold\t1", 4, A_BYTE);
         badRule("fold 1\n", 6, A_BYTE);
         badRule("fold 1\0", 6, A_BYTE);
