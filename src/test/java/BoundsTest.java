@@ -653,6 +653,17 @@ public final class BoundsTest {
         due("its mix of WEEK 0", order(x), 12354);
         x.week();
         due("its mix of WEEK 1", order(x), 12345);
+        // the grades of the begin, too: by them the rule takes the second sheet to the first bed
+        LinenName y = Checks.told("house 30 5;lodger 1 1;lodger 9 9;lodger 4 4", "fold gradeo-grade");
+        y.note(1, 0, 1);
+        y.image(0);
+        due("by the RULE", y.ruled(0) * 10 + y.ruled(1), 10);
+        Checks.house(y, "house 30 5;lodger 9 1;lodger 1 9;lodger 4 4");
+        y.back(0);
+        y.starch(0);
+        y.starch(0);
+        due("by the RULE again", y.ruled(0) * 10 + y.ruled(1), 10);
+        due("and where to look", y.look(1, 0) * 10 + y.look(1, 1), 1);
     }
 
     private static void counts() {
