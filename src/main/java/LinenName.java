@@ -1404,17 +1404,21 @@ public final class LinenName {
         private int bestSheet(int laid, int bed) {
             int best = NONE;
             for (int sheet = 0; sheet < house.lodgers; sheet++) {
-                if ((laid >> sheet & 1) == 0
-                        && (best == NONE || letWith(laid, bed, sheet) > letWith(laid, bed, best))) {
+                if ((laid >> sheet & 1) == 0 && letWith(laid, bed, sheet) > letWith(laid, bed, best)) {
                     best = sheet;
                 }
             }
             return best;
         }
 
+        /** Any sheet lets more than none (NONE). */
         private int letWith(int laid, int bed, int sheet) {
+            int then = laid | 1 << sheet;
+            if (sheet == NONE || !isWithin(then, 0, mostLet.length - 1)) {
+                return NONE;
+            }
             int here = linen.grade[sheet] >= house.wants[bed] ? 1 : 0;
-            return here + mostLet[laid | 1 << sheet];
+            return here + mostLet[then];
         }
 
         /** The fewest changes by which all of the set are let; NONE, if there are none such. */
@@ -1443,10 +1447,11 @@ public final class LinenName {
 
         private boolean lays(int sheet, int bed, int laid, int changes) {
             boolean must = (mustBeLet >> bed & 1) != 0;
-            if (must && linen.grade[sheet] < house.wants[bed]) {
+            int from = linen.bedOf(sheet, house.lodgers);
+            if (from == NONE || must && linen.grade[sheet] < house.wants[bed]) {
                 return false;
             }
-            int left = changes - join(bed, linen.bedOf(sheet, house.lodgers));
+            int left = changes - join(bed, from);
             order[bed] = sheet;
             return left >= 0 && laysFrom(bed + 1, laid | 1 << sheet, left);
         }
